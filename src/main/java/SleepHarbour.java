@@ -245,17 +245,12 @@ public final class SleepHarbour {
         if (n < 1 || n > MOST_DOINGS || row < 0) {
             return BAD;
         }
-        long unit = 1;
-        for (int i = 0; i < n; i++) {
-            unit *= 1000;
-        }
-        if (row >= unit) {
+        if (withoutLast(row, n) != 0) {
             return BAD;
         }
         then.becomes(now);
         for (int i = 0; i < n; i++) {
-            unit /= 1000;
-            if (!then.does((int) (row / unit % 1000))) {
+            if (!then.does((int) (withoutLast(row, n - 1 - i) % 1000))) {
                 return i;
             }
         }
@@ -406,6 +401,16 @@ public final class SleepHarbour {
         }
     }
 
+    /** What is left of a row of doings ahead of its last ones. */
+    private static long withoutLast(long row, int doings) {
+        long left = row;
+        for (int i = 0; i < doings; i++) {
+            left /= 1000;
+        }
+        return left;
+    }
+
+    /** All berths, as bits. */
     private int allBerths() {
         return (1 << told.berths) - 1;
     }
@@ -920,7 +925,8 @@ public final class SleepHarbour {
         boolean agrees(int kind, int depth, Told told) {
             for (int i = 0; i < count; i++) {
                 int deep = kind == DREDGED ? Math.min(DEEPEST, depth + night[i]) : depth;
-                if (draught[i] > deep + told.tideOn(night[i]) != grounded[i]) {
+                boolean grounds = draught[i] > deep + told.tideOn(night[i]);
+                if (grounds != grounded[i]) {
                     return false;
                 }
             }

@@ -164,7 +164,7 @@ public final class ModelTest {
         for (int i = 0; i < n && i < 4; i++) {
             int kind = random.nextInt(7) % 6;
             int second = kind == 1 || kind >= 4 || random.nextInt(20) == 0 ? random.nextInt(5) : 0;
-            int third = kind == 0 ? random.nextInt(20) / 19 : random.nextInt(10) == 0 ? random.nextInt(10) : random.nextInt(4);
+            int third = kind == 0 ? random.nextInt(20) / 19 : random.nextInt(random.nextInt(10) == 0 ? 10 : 4);
             row = row * 1000 + 100 * kind + 10 * second + third;
         }
         if (random.nextInt(20) == 0) {
@@ -186,11 +186,13 @@ public final class ModelTest {
             int one = number(5);
             int other = number(5);
             int what = number(2);
-            same("rests(" + one + ", " + other + ", " + what + ")", x.rests(one, other, what), m.rests(one, other, what));
+            same("rests(" + one + ", " + other + ", " + what + ")",
+                x.rests(one, other, what), m.rests(one, other, what));
         } else if (which < 22) {
             int count = number(6);
             int tenths = number(11);
-            same("ebb(" + count + ", " + tenths + ", " + upper + ")", x.ebb(count, tenths, upper), m.ebb(count, tenths, upper));
+            same("ebb(" + count + ", " + tenths + ", " + upper + ")",
+                x.ebb(count, tenths, upper), m.ebb(count, tenths, upper));
         } else if (which < 29) {
             chance();
         } else {
