@@ -514,7 +514,7 @@ public final class SleepHarbour {
         }
 
         int tideOn(int night) {
-            return tides == 0 ? 0 : tideOf[night % tides];
+            return tides == 0 ? 0 : tideOf[Math.floorMod(night, tides)];
         }
 
         /** Whether a port can go on with this byte; if so, it does. */

@@ -25,7 +25,7 @@ public final class LanguageTest {
         "int unsound()", "int depths(int)", "int rests(int,int,int)", "int ebb(int,int,boolean)",
         "long seed(long)", "int years(int)", "int keep(int)", "int again(int)"};
     private static final Set<String> LIBRARY = Set.of(
-        "Math.max", "Math.min", "Math.abs", "Integer.bitCount", "System.arraycopy");
+        "Math.max", "Math.min", "Math.abs", "Math.floorMod", "Integer.bitCount", "System.arraycopy");
 
     public static void main(String[] args) throws IOException {
         face();
