@@ -77,7 +77,7 @@ final class NightEdges {
     }
 
     private void barges() {
-        String ballast = "each that LIES OFF has lain so 1 NIGHT more; a BARGE has 1 more DRAUGHT (9 at most)";
+        String ballast = "(b) each that LIES OFF has lain so 1 NIGHT more; a BARGE has 1 more DRAUGHT (9 at most)";
         edge(ballast, "HD72D92D70D71D73", "night() dream(0,0)=8 dream(1,0)=9 night() dream(0,0)=9 night() dream(0,0)=9 dream(1,0)=9"
             + " dream(2,0)=7 dream(3,0)=7 dream(4,0)=7 dream(0,3)=3 dream(2,3)=3");
         edge(ballast, "HB00D12D10", "moor(0,0)=1 2*night() dream(0,0)=1 dream(0,3)=NONE dream(1,3)=2 tow(0)=0 dream(0,0)=1 night()"

@@ -26,6 +26,7 @@ final class PortEdges {
     }
 
     private void counts() {
+        edge("BERTHS are 0, 1, ..", "HB00B11B22B33", "berth(-1,0)=UNKNOWN berth(0,0)=0 berth(1,0)=1 berth(2,0)=2 berth(3,0)=3 berth(4,0)=UNKNOWN");
         String berths = "(4 at most), DREAMS 0, 1, ..";
         edge(berths, "HB00B10B20", "about(1)=3 berth(2,0)=2 berth(3,0)=UNKNOWN say(B) fault()=11 say(30) fault()=NONE");
         edge(berths, "HB00B10B20B30", "about(1)=4 berth(0,0)=0 berth(3,0)=3 berth(4,0)=UNKNOWN fault()=NONE");
